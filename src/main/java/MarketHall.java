@@ -1921,7 +1921,9 @@ public final class MarketHall {
         private static void moveUp(Hall h, int clock, int place) {
             int last = h.clocks[clock][CLOCK_LOTS] - 1;
             for (int at = clock * MOST_LOTS + place; at < clock * MOST_LOTS + last; at++) {
-                System.arraycopy(h.lots[at + 1], 0, h.lots[at], 0, LOT_WIDE);
+                for (int column = 0; column < LOT_WIDE; column++) {
+                    h.lots[at][column] = h.lots[at + 1][column];
+                }
             }
             h.clocks[clock][CLOCK_LOTS] = last;
         }
@@ -2236,68 +2238,62 @@ public final class MarketHall {
         }
 
         /**
-         * The TRIP through a set of TOWNS, NONE behind its end; answers its LONG. It is found by sets: how long
-         * it takes at least from where the TRUCK is through a set of TOWNS to THE HALL.
+         * The TRIP through a set of TOWNS, NONE behind its end; answers its LONG. Rows are tried from the lowest
+         * TOWNS on, so that of rows that take as long the first one tried stays.
          */
         static int shortestTrip(Hall h, int towns, int[] trip) {
-            int[] fewest = new int[(1 << TOWNS) * (THE_HALL + 1)];
-            for (int set = 0; set < 1 << TOWNS; set++) {
-                for (int at = 0; at <= THE_HALL && (set & ~towns) == 0; at++) {
-                    int next = nextTown(h, fewest, set, at);
-                    fewest[set * (THE_HALL + 1) + at] = next == NONE ? h.ways[at][THE_HALL] : hoursBy(h, fewest, set, at, next);
-                }
-            }
-            int rest = towns;
-            int at = THE_HALL;
-            for (int place = 0; place < TOWNS; place++) {
-                trip[place] = nextTown(h, fewest, rest, at);
-                if (trip[place] != NONE) {
-                    at = trip[place];
-                    rest &= ~(1 << at);
-                }
-            }
-            return fewest[towns * (THE_HALL + 1) + THE_HALL];
-        }
-
-        /** The lowest TOWN of a set to which it is best to go first; NONE, if there is none. */
-        private static int nextTown(Hall h, int[] fewest, int set, int at) {
-            int next = NONE;
-            for (int town = 0; town < TOWNS; town++) {
-                if ((set >> town & 1) == 1 && (next == NONE
-                        || hoursBy(h, fewest, set, at, town) < hoursBy(h, fewest, set, at, next))) {
-                    next = town;
-                }
-            }
-            return next;
-        }
-
-        private static int hoursBy(Hall h, int[] fewest, int set, int at, int town) {
-            return h.ways[at][town] + fewest[(set & ~(1 << town)) * (THE_HALL + 1) + town];
-        }
-
-        /** The LONG of the TRIP through a set of TOWNS, found by all rows in which they can stand. */
-        private static int longByRows(Hall h, int towns) {
             int[] row = new int[TOWNS];
             int many = 0;
             for (int town = 0; town < TOWNS; town++) {
+                trip[town] = NONE;
                 if ((towns >> town & 1) == 1) {
                     row[many] = town;
                     many++;
                 }
             }
-            int fewest = 12 * (TOWNS + 1);
+            int fewest = NONE;
             boolean more = true;
             for (int turn = 0; turn < 120 && more; turn++) {
-                int hours = 0;
-                int at = THE_HALL;
-                for (int place = 0; place < many; place++) {
-                    hours += h.ways[at][row[place]];
-                    at = row[place];
+                int hours = hoursOf(h, row, many);
+                if (fewest == NONE || hours < fewest) {
+                    fewest = hours;
+                    System.arraycopy(row, 0, trip, 0, many);
                 }
-                fewest = Math.min(fewest, hours + h.ways[at][THE_HALL]);
                 more = Clocks.nextRow(row, many);
             }
             return fewest;
+        }
+
+        /** How long it takes from THE HALL through a row of so many TOWNS, and back. */
+        private static int hoursOf(Hall h, int[] row, int many) {
+            int hours = 0;
+            int at = THE_HALL;
+            for (int place = 0; place < many; place++) {
+                hours += h.ways[at][row[place]];
+                at = row[place];
+            }
+            return hours + h.ways[at][THE_HALL];
+        }
+
+        /**
+         * The LONG of the TRIP through a set of TOWNS, found by sets: how long it takes at least from a place
+         * through a set of TOWNS to THE HALL, from what it takes through the sets with one TOWN less.
+         */
+        private static int longBySets(Hall h, int towns) {
+            int[] fewest = new int[(1 << TOWNS) * (THE_HALL + 1)];
+            for (int set = 0; set < 1 << TOWNS; set++) {
+                for (int at = 0; at <= THE_HALL; at++) {
+                    int hours = set == 0 ? h.ways[at][THE_HALL] : LAST_TIME;
+                    for (int town = 0; town < TOWNS; town++) {
+                        if ((set >> town & 1) == 1) {
+                            int rest = set & ~(1 << town);
+                            hours = Math.min(hours, h.ways[at][town] + fewest[rest * (THE_HALL + 1) + town]);
+                        }
+                    }
+                    fewest[set * (THE_HALL + 1) + at] = hours;
+                }
+            }
+            return fewest[towns * (THE_HALL + 1) + THE_HALL];
         }
 
         /** Step 6 of an HOUR for one TRUCK. */
@@ -2344,7 +2340,8 @@ public final class MarketHall {
                         truck[TRUCK_OUT] = 0;
                         truck[TRUCK_HOME] = NONE;
                         truck[TRUCK_GONE] += truck[TRUCK_LONG];
-                        Books.enter(h, Books.CASH, Books.HAULS, h.tariffs[Books.AN_HOUR_GONE] * truck[TRUCK_LONG], NONE);
+                        int cents = h.tariffs[Books.AN_HOUR_GONE] * truck[TRUCK_LONG];
+                        Books.enter(h, Books.CASH, Books.HAULS, cents, NONE);
                     }
                 }
             }
@@ -2438,7 +2435,7 @@ public final class MarketHall {
                 boolean isOnTrip = truck[TRUCK_WENT] <= h.of[NOW] && h.of[NOW] < truck[TRUCK_HOME];
                 int towns = townsOf(h, n);
                 sound = cratesIn(h, n) <= truck[TRUCK_SPACE]
-                        && (isOut ? isOnTrip : shortestTrip(h, towns, new int[TOWNS]) == longByRows(h, towns));
+                        && (isOut ? isOnTrip : shortestTrip(h, towns, new int[TOWNS]) == longBySets(h, towns));
             }
             return sound;
         }
@@ -2722,7 +2719,7 @@ public final class MarketHall {
         static int award(Hall h, int[] parcel, int cause) {
             int gross = parcel[PARCEL_GROSS];
             if (cause == NOT_FINE) {
-                int stage = stageOf(h, parcel);
+                int stage = Goods.stage(h, h.pallets[parcel[PARCEL_PALLET]][PALLET_SORT], parcel[PARCEL_RIPE]);
                 if (stage == FINE) {
                     return 0;
                 }
@@ -2739,20 +2736,16 @@ public final class MarketHall {
             return parcel[PARCEL_DONE] - parcel[PARCEL_SOLD] > 48 ? gross / 4 : 0;
         }
 
-        private static int stageOf(Hall h, int[] parcel) {
-            return Goods.stage(h, h.pallets[parcel[PARCEL_PALLET]][PALLET_SORT], parcel[PARCEL_RIPE]);
-        }
-
         /** Shares an AWARD out by the WEIGHTS of its CAUSE. */
         static void shareAward(Hall h, int[] parcel, int cause, int award, int[] shares) {
+            int sort = h.pallets[parcel[PARCEL_PALLET]][PALLET_SORT];
             int grower = 0;
             int hall = 0;
             int carrier = 0;
-            if (cause == BAD_CRATES || cause == NOT_FINE && stageOf(h, parcel) == GREEN) {
+            if (cause == BAD_CRATES || cause == NOT_FINE && Goods.stage(h, sort, parcel[PARCEL_RIPE]) == GREEN) {
                 grower = 1;
             } else if (cause == NOT_FINE) {
-                int prime = h.sorts[h.pallets[parcel[PARCEL_PALLET]][PALLET_SORT]][SORT_PRIME];
-                grower = Math.max(0, parcel[PARCEL_SOLD_RIPE] - prime);
+                grower = Math.max(0, parcel[PARCEL_SOLD_RIPE] - h.sorts[sort][SORT_PRIME]);
                 hall = parcel[PARCEL_LOADED_RIPE] - parcel[PARCEL_SOLD_RIPE];
                 carrier = parcel[PARCEL_RIPE] - parcel[PARCEL_LOADED_RIPE];
             } else if (cause == HARM_DONE) {
@@ -2771,7 +2764,10 @@ public final class MarketHall {
         /** The SHARES of some cents by three WEIGHTS that are not all 0. */
         static void share(int cents, int first, int second, int third, int[] shares) {
             int[] weights = {first, second, third};
-            long all = Math.max(1, first + second + third);
+            long all = first + second + third;
+            if (all < 1) {
+                return;
+            }
             long[] rests = new long[3];
             int left = cents;
             for (int n = 0; n < 3; n++) {
