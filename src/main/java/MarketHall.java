@@ -612,7 +612,10 @@ public final class MarketHall {
         inRange(part, 0, 8);
         boolean sound = true;
         for (int one = 1; one <= 8 && sound; one++) {
-            switch (part == 0 || part == one ? one : 0) {
+            if (part != 0 && part != one) {
+                continue;
+            }
+            switch (one) {
                 case 1: sound = Goods.areSound(hall); break;
                 case 2: sound = Stores.areSound(hall); break;
                 case 3: sound = Buyers.areSound(hall); break;
@@ -620,8 +623,7 @@ public final class MarketHall {
                 case 5: sound = Carriers.areSound(hall); break;
                 case 6: sound = Rounds.areSound(hall); break;
                 case 7: sound = Books.areSound(hall); break;
-                case 8: sound = Goods.haveNoLeftovers(hall) && deeds.leadTo(hall, spares[0]); break;
-                default: break;
+                default: sound = Goods.haveNoLeftovers(hall) && deeds.leadTo(hall, spares[0]); break;
             }
         }
         return sound;
