@@ -40,12 +40,16 @@ final class Given {
         return x;
     }
 
-    /** A PALLET of so many CRATES is sold at a price to an ORDER of a BUYER alone, in the next HOUR; answers the PARCEL. */
+    /**
+     * A PALLET of so many CRATES is sold at a price to an ORDER of a BUYER alone, in the next HOUR in which CLOCK 0 of
+     * an open market is OPEN; answers the PARCEL.
+     */
     static int sold(MarketHall x, int buyer, int crates, int price) {
         int pallet = graded(x, crates);
         int order = x.order(buyer, 0, 0, crates, price, EVERY_DAY);
         x.queue(0, pallet, price, price);
-        x.pass(1);
+        int hour = x.sum(0) % 24;
+        x.pass(hour < 5 ? 1 : 24 - hour);
         x.cancel(order);
         return x.sum(12) - 1;
     }
