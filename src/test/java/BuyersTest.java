@@ -10,6 +10,7 @@ public final class BuyersTest {
         owes();
         billsAreSettled();
         billsByPayday();
+        billOfOneCent();
         blockedBuyerAsksNothing();
         lostParcels();
         lostParcelOfCancelledOrder();
@@ -178,6 +179,21 @@ public final class BuyersTest {
         Check.due("TERM 3 is not over", x.parcel(2, 19), 200);
         Check.due("its PURSE stays", x.owes(0, 3), 50);
         Check.due("it is not BLOCKED", x.owes(0, 7), 0);
+    }
+
+    private static void billOfOneCent() {
+        MarketHall x = Given.open();
+        x.buyer(2, 9000000, 0);
+        Given.sold(x, 1, 1, 1);
+        Given.sold(x, 0, 1, 1);
+        x.pay(0, 1);
+        x.pass(22);
+        Check.due("one cent is enough to be BLOCKED", x.owes(1, 7), 1);
+        Check.due("one BILL is open", x.owes(1, 8), 1);
+        Check.due("it is over", x.owes(1, 6), 1);
+        x.pay(1, 1);
+        x.pass(24);
+        Check.due("one cent is enough to be paid", x.owes(1, 7) + x.owes(1, 8), 0);
     }
 
     private static void blockedBuyerAsksNothing() {

@@ -429,6 +429,9 @@ public final class ClocksTest {
         int pallet = Given.graded(x, 5);
         Check.due("the least of the best", x.bestStart(0, pallet, 7, 0), 97);
         Check.due("its TAKINGS", x.bestStart(0, pallet, 7, 1), 485);
+        x.order(0, 0, 3, 5, 2001, Given.EVERY_DAY);
+        Check.due("200 STEPS above it", x.bestStart(0, pallet, 1, 0), 2001);
+        x.cancel(1);
         Check.due("a RESERVE that none gives", x.bestStart(0, pallet, 101, 0), 101);
         Check.due("its TAKINGS", x.bestStart(0, pallet, 101, 1), 0);
         Check.due("the highest RESERVE", x.bestStart(0, pallet, 9999, 0), 9999);

@@ -177,26 +177,31 @@ public final class RoundsTest {
         MarketHall x = market(5, 0);
         x.round(0, 127, 7);
         int bad = x.deliver(0, 0, 5, 300, 5);
-        x.grade(bad, 5, 1, 0);
+        x.grade(bad, 5, 0, 0);
         int best = Given.graded(x, 5);
         x.deliver(0, 0, 5, 300, 0);
+        int second = x.deliver(0, 0, 5, 300, 5);
+        x.grade(second, 1, 0, 0);
+        Check.due("GRADES 3, 0 and 2", x.pallet(bad, 9) * 100 + x.pallet(best, 9) * 10 + x.pallet(second, 9), 302);
         x.outside(0, 3);
         x.outside(1, 3);
         x.pass(23);
         Check.due("HARM 23 is none", x.looked(0, 5), 0);
         x.pass(6);
         Check.due("HARM", x.pallet(best, 8), 29);
-        Check.due("one FINDING", x.looked(0, 5), 1);
-        Check.due("its kind", x.found(0, 3), 1);
-        Check.due("its PALLET", x.found(0, 2), best);
-        Check.due("the GRADE that there was", x.found(0, 5), 0);
+        Check.due("two FINDINGS", x.looked(0, 5), 2);
+        Check.due("the kind of the first one", x.found(1, 3), 1);
+        Check.due("its PALLET", x.found(1, 2), best);
+        Check.due("the GRADE that there was", x.found(1, 5), 0);
         Check.due("its GRADE", x.pallet(best, 9), 3);
+        Check.due("the PALLET of the second one", x.found(0, 2), second);
+        Check.due("the GRADE that there was", x.found(0, 5), 2);
         Check.due("none without a GRADE", x.pallet(2, 9), -1);
         x.pass(24);
-        Check.due("it is not found again", x.looked(0, 5), 1);
+        Check.due("they are not found again", x.looked(0, 5), 2);
         x.grade(best, 1, 0, 0);
         x.pass(24);
-        Check.due("a GRADING makes it new", x.looked(0, 5), 2);
+        Check.due("a GRADING makes it new", x.looked(0, 5), 3);
     }
 
     private static void strictFindsStages() {

@@ -83,10 +83,13 @@ public final class SeasonTest {
         write(x, "g0,-;");
         x.tasks();
         Check.due("no GO", x.haul(0, 3), -1);
+        Given.sold(x, 0, 5, 100);
         int parcel = Given.sold(x, 0, 5, 100);
-        write(x, "l0,0;d1;c1;");
-        Check.due("the ORDER is cancelled already, or none", x.tasks(), 2);
-        Check.due("loaded", x.parcel(parcel, 9), MarketHall.LOADED);
+        x.truck(40, 4);
+        write(x, "l1,0;l0,1;d1;c1;");
+        Check.due("the ORDER is cancelled already", x.tasks(), 3);
+        Check.due("its TRUCK", x.parcel(parcel, 10), 0);
+        Check.due("the TRUCK of the other one", x.parcel(0, 10), 1);
         Check.due("dumped", x.pallet(second, 10), MarketHall.DUMPED);
         int order = x.order(0, 0, 0, 1, 1, 1);
         write(x, "c" + order + ";");
@@ -190,6 +193,32 @@ public final class SeasonTest {
             int stage = ripe < prime - span ? 0 : ripe <= prime + span ? 1 : ripe <= prime + 3 * span ? 2 : 3;
             Check.due("its STAGE", x.pallet(n, 11), stage);
             Check.due("never graded", x.pallet(n, 14), 0);
+        }
+        x.keep(0);
+        for (int n = 0; n < sorts; n++) {
+            seasonSort(x, n, sort[n]);
+            x.again(0);
+        }
+    }
+
+    /** What a SORT is, by the STAGES of what is delivered and by how that ripens and is harmed. */
+    private static void seasonSort(MarketHall x, int number, int[] sort) {
+        x.dump(0);
+        for (int stage = 0; stage < 3; stage++) {
+            int last = stage == 0 ? sort[3] - sort[4] - 1 : sort[3] + (2 * stage - 1) * sort[4];
+            for (int more = 0; more < 2; more++) {
+                int pallet = x.deliver(0, number, 1, last + more, 0);
+                Check.due("the STAGE of " + (last + more), x.pallet(pallet, 11), stage + more);
+                x.dump(pallet);
+            }
+        }
+        int pallet = x.deliver(0, number, 1, 0, 0);
+        for (int warmth = 0; warmth <= 40; warmth++) {
+            x.outside(0, warmth);
+            Check.due("RIPE at " + warmth, x.ripe(pallet, -1, 1), sort[0] * Math.max(0, warmth - sort[1]) / 8);
+            x.pass(1);
+            Check.due("HARM at " + warmth, x.pallet(pallet, 8), warmth < sort[2] ? 1 : 0);
+            x.undo();
         }
     }
 

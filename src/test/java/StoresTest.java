@@ -18,6 +18,7 @@ public final class StoresTest {
         ripe();
         ripeIsRefused();
         best();
+        bestByDoors();
         bestOfLikeOnes();
         bestAgainstAllWays();
         Check.end();
@@ -352,6 +353,27 @@ public final class StoresTest {
         Check.range("behind the last TIME", () -> y.best(672, 0));
     }
 
+    /** ROOMS that are warm by their DOORS alone: each PALLET that comes makes all there ripen by 1 more in an HOUR. */
+    private static void bestByDoors() {
+        MarketHall x = new MarketHall();
+        x.sort(8, 4, 0, 300, 60);
+        x.grower(0, 0);
+        x.outside(0, 4);
+        x.room(3, 0, 0);
+        x.room(3, 0, 0);
+        x.outside(0, 40);
+        for (int n = 0; n < 3; n++) {
+            x.deliver(0, 0, 5, 350, 0);
+        }
+        int[][] due = {{3, 0, 0, 0}, {3, 0, 0, 1}, {2, 6, 0, 1}, {0, 6, 6, 6}};
+        int[] times = {3, 5, 9, 11};
+        for (int n = 0; n < times.length; n++) {
+            for (int what = 0; what < 4; what++) {
+                Check.due("best(" + times[n] + ", " + what + ") by DOORS", x.best(times[n], what), due[n][what]);
+            }
+        }
+    }
+
     private static void bestOfLikeOnes() {
         MarketHall x = Given.sortAndGrower();
         x.room(1, 9, 0);
@@ -375,7 +397,7 @@ public final class StoresTest {
 
     /** Each way is put, and ripens, on an image. */
     private static void bestAgainstAllWays() {
-        for (int seed = 1; seed <= 12; seed++) {
+        for (int seed = 1; seed <= 40; seed++) {
             MarketHall x = new MarketHall();
             x.season(seed * 977, 8);
             for (int pallet = 0; pallet < 8; pallet++) {
