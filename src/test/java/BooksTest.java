@@ -11,6 +11,7 @@ public final class BooksTest {
         owed();
         paidOutOnWeekdaySix();
         resultOfADay();
+        resultOfOneCent();
         quarrels();
         quarrelIsRefused();
         twelveQuarrels();
@@ -168,6 +169,17 @@ public final class BooksTest {
         Check.due("isSound(7)", x.isSound(7), true);
     }
 
+    private static void resultOfOneCent() {
+        MarketHall x = Given.sortAndGrower();
+        x.tariff(0, 1);
+        x.deliver(0, 0, 5, 300, 0);
+        x.grade(0, 1, 0, 0);
+        x.pass(24);
+        Check.due("SAMPLES", x.account(6), 0);
+        Check.due("RESULT", x.account(9), 1);
+        Check.index("no more than two ENTRIES", () -> x.entry(2, 0));
+    }
+
     private static void quarrels() {
         MarketHall x = market();
         bring(x, Given.sold(x, 0, 10, 100));
@@ -318,24 +330,25 @@ public final class BooksTest {
         }
     }
 
-    /** More than 5, 15, 30 or 60 of 100, by the GRADE. */
+    /** More than 5, 15, 30 or 60 of 100, by the GRADE: a row has that, CRATES, BAD, and whether there is an AWARD. */
     private static void blameForBadCrates() {
-        int[][] due = {{0, 1, 0}, {0, 2, 1}, {1, 3, 0}, {1, 4, 1}, {2, 6, 0}, {2, 7, 1}, {3, 12, 0}, {3, 13, 1}, {0, 0, 0}};
+        int[][] due = {{0, 20, 1, 0}, {0, 17, 1, 1}, {1, 20, 3, 0}, {1, 19, 3, 1}, {2, 20, 6, 0}, {2, 13, 4, 1},
+            {3, 20, 12, 0}, {3, 23, 14, 1}, {0, 20, 0, 0}};
         for (int[] one : due) {
             MarketHall x = market();
-            int pallet = x.deliver(0, 0, 20, 300, one[1]);
-            int found = -1;
+            int crates = one[1];
+            int pallet = x.deliver(0, 0, crates, 300, one[2]);
             for (int seed = 0; x.pallet(pallet, 9) != one[0]; seed++) {
-                int sample = one[0] == 0 ? 1 : 2 + seed % 18;
-                found = x.grade(pallet, sample, seed % 10, seed * 131);
+                int sample = one[0] == 0 ? 1 : 2 + seed % (Math.min(20, crates) - 1);
+                x.grade(pallet, sample, seed % 10, seed * 131);
             }
-            int order = x.order(0, 0, 3, 20, 100, Given.EVERY_DAY);
+            int order = x.order(0, 0, 3, crates, 100, Given.EVERY_DAY);
             x.queue(0, pallet, 100, 100);
             x.pass(1);
             x.cancel(order);
             bring(x, 0);
-            int award = one[2] * 2000 * one[1] / 20;
-            Check.due("AWARD with GRADE " + found + ", BAD " + one[1], x.blame(0, 1, AWARD), award);
+            int award = one[3] * 100 * crates * one[2] / crates;
+            Check.due("AWARD with GRADE " + one[0] + ", BAD " + one[2] + " of " + crates, x.blame(0, 1, AWARD), award);
             Check.due("the GROWER bears it", x.blame(0, 1, GROWER), award);
             Check.due("the carrier does not", x.blame(0, 1, CARRIER), 0);
         }

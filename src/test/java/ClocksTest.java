@@ -10,6 +10,7 @@ public final class ClocksTest {
         queueIsRefused();
         withdraws();
         handFalls();
+        handFallsByOneCent();
         handRises();
         handIsNeverAboveStart();
         parcelIsTold();
@@ -134,6 +135,17 @@ public final class ClocksTest {
         Check.due("none takes it", x.sum(12), 1);
         Check.due("the HAND", x.hand(0, 6), 45);
         Check.due("LOTS that were sold", x.hand(0, 8), 2);
+    }
+
+    private static void handFallsByOneCent() {
+        MarketHall x = Given.still();
+        x.buyer(1, 900000, 3);
+        x.clock(0, 6, 6, 1, 0);
+        x.order(0, 0, 3, 4, 99, Given.EVERY_DAY);
+        x.queue(0, Given.graded(x, 5), 100, 98);
+        x.pass(1);
+        Check.due("its PRICE", x.parcel(0, 5), 99);
+        Check.due("the HAND", x.hand(0, 6), 98);
     }
 
     /** RISE 2 of STEP 20: sold at 100, the HAND is 140 and falls again. */
@@ -285,6 +297,8 @@ public final class ClocksTest {
             Check.due("takings without LOTS", x.takings(0, 12, what), 0);
         }
         Check.due("HAND without LOTS", x.takings(0, 12, 4), -1);
+        Given.sold(x, 0, 3, 70);
+        int parcels = x.sum(12);
         x.order(0, 0, 3, 8, 100, Given.EVERY_DAY);
         x.queue(0, Given.graded(x, 5), 100, 50);
         x.queue(0, Given.graded(x, 6), 150, 40);
@@ -295,7 +309,7 @@ public final class ClocksTest {
             Check.due("takings(0, 2, " + what + ")", x.takings(0, 2, what), both[what]);
             Check.due("takings(0, 12, " + what + ")", x.takings(0, 12, what), both[what]);
         }
-        Check.due("nothing was sold", x.sum(12) + x.hand(0, 8), 0);
+        Check.due("nothing was sold", x.sum(12), parcels);
         Check.index("no such CLOCK", () -> x.takings(1, 0, 0));
         Check.index("no such CLOCK", () -> x.takings(-1, 1, 0));
         Check.range("lots 0", () -> x.takings(0, 0, 0));
@@ -370,6 +384,17 @@ public final class ClocksTest {
         x.withdraw(0);
         Check.due("5 LOTS", x.bestRow(0, -1), 450);
         Check.due("no GRADE, so the least numbers", x.bestRow(0, 4), 5);
+        MarketHall y = Given.open();
+        for (int n = 0; n < 3; n++) {
+            y.deliver(0, 0, 5, 300, 0);
+        }
+        for (int n = 2; n >= 0; n--) {
+            y.queue(0, n, 90, 80);
+        }
+        for (int place = 0; place < 3; place++) {
+            Check.due("none brings anything, so the least numbers", y.bestRow(0, place), place);
+        }
+        Check.due("no TAKINGS", y.bestRow(0, -1), 0);
     }
 
     /** Each row is queued anew on an image. */
@@ -437,7 +462,7 @@ public final class ClocksTest {
         Check.due("the highest RESERVE", x.bestStart(0, pallet, 9999, 0), 9999);
         x.queue(0, pallet, 10, 10);
         Check.due("QUEUED or not", x.bestStart(0, pallet, 7, 0), 97);
-        int other = x.deliver(0, 0, 5, 300, 0);
+        int other = x.deliver(0, 0, 1, 300, 0);
         Check.due("without a GRADE", x.bestStart(0, other, 5, 0), 5);
         Check.index("no such CLOCK", () -> x.bestStart(1, 0, 0, 0));
         Check.index("no such CLOCK", () -> x.bestStart(-1, 0, 1, 0));

@@ -84,6 +84,10 @@ public final class RoundsTest {
         Check.range("no such ROOM", () -> x.round(0, 0, 143));
         x.room(1, 0, 0);
         Check.due("there is that ROOM", x.round(0, 0, 143), 3);
+        MarketHall y = new MarketHall();
+        y.inspector(0, 0);
+        Check.range("there is no ROOM", () -> y.round(0, 0, 1));
+        Check.due("but THE FLOOR", y.round(0, 0, 777777), 6);
     }
 
     private static void looksByWeekday() {
@@ -309,7 +313,14 @@ public final class RoundsTest {
         x.round(0, 0b1000000, 1);
         Check.due("NOW", x.sum(0), 665);
         Check.due("WEEKDAY 6, but too late", x.looked(0, 8), -1);
-        Check.index("no such INSPECTOR", () -> x.looked(1, 10));
+        x.inspector(18, 0);
+        x.round(1, 127, 777777);
+        x.pass(5);
+        Check.due("at the last TIME", x.looked(1, 8), 671);
+        x.pass(1);
+        Check.due("a LOOK at the last TIME", x.looked(1, 7), 671);
+        Check.due("none behind it", x.looked(1, 8), -1);
+        Check.index("no such INSPECTOR", () -> x.looked(2, 10));
         Check.index("no such INSPECTOR", () -> x.looked(-1, 0));
         Check.range("what 10", () -> x.looked(0, 10));
         Check.range("what -1", () -> x.looked(0, -1));

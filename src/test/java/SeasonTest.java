@@ -555,12 +555,13 @@ public final class SeasonTest {
         x.queue(0, x.deliver(0, 0, 5, 300, 0), 5, 5);
         x.inspector(18, 0);
         x.quarrel(0, 0);
+        x.dump(x.deliver(0, 0, 5, 300, 0));
         int rotten = x.deliver(0, 0, 5, 999, 0);
         x.put(rotten, 0);
         x.round(0, 127, 1);
         x.pass(9);
         x.sign(59);
-        int[] due = {18, 3, 2, 1, 7, 1, 1, 3, 1, 1, 1, 5, 5, 1, 1, 2, 1, 1, 2, 1, 1};
+        int[] due = {18, 3, 2, 1, 8, 1, 1, 3, 1, 2, 1, 5, 5, 1, 1, 2, 1, 1, 2, 1, 1};
         for (int what = 0; what < due.length; what++) {
             Check.due("sum(" + what + ")", x.sum(what), due[what]);
         }
