@@ -2665,7 +2665,9 @@ public final class MarketHall {
         static final int A_SAMPLE = 0, AN_HOUR_OF_POWER = 1, AN_HOUR_GONE = 2, A_FINDING = 3;
 
         private static final int PENDING = 0, DISMISSED = 1, UPHELD = 2;
-        private static final int NOT_FINE = 0, BAD_CRATES = 1, HARM_DONE = 2, LATE = 3;
+
+        /** The CAUSES; any other one is that it was late. */
+        private static final int NOT_FINE = 0, BAD_CRATES = 1, HARM_DONE = 2;
 
         /** Of 100 CRATES more than so many are to be BAD, by the GRADE, for an AWARD. */
         private static final int[] BAD_BORNE = {5, 15, 30, 60};
