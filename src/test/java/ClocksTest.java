@@ -65,6 +65,14 @@ public final class ClocksTest {
         Check.due("queue at another CLOCK", x.queue(1, pallet, 201, 1), 0);
         Check.due("it is QUEUED", x.pallet(pallet, 10), MarketHall.QUEUED);
         Check.due("isSound(4)", x.isSound(4), true);
+        for (int n = 13; n < 24; n++) {
+            Check.due("queue at another CLOCK", x.queue(1, x.deliver(0, 0, 5, 0, 0), 9, 9), n - 12);
+        }
+        Check.due("withdraw out of a full row", x.withdraw(23), 11);
+        Check.due("withdraw", x.withdraw(12), 10);
+        Check.due("the last one moved up", x.lot(1, 9, 0), 22);
+        Check.due("withdraw out of the other full row", x.withdraw(0), 11);
+        Check.due("the last one moved up", x.lot(0, 10, 0), 11);
     }
 
     private static void queueIsRefused() {

@@ -10,6 +10,7 @@ public final class RoundsTest {
         rottenIsSeized();
         seizedPalletLosesParcels();
         harmedIsFound();
+        harmOfJustADay();
         strictFindsStages();
         floorIsNeverShut();
         roomIsShut();
@@ -18,6 +19,7 @@ public final class RoundsTest {
         found();
         findingsAreKept();
         worst();
+        worstInItsHours();
         worstOfNoDay();
         worstAgainstAllSearches();
         Check.end();
@@ -208,6 +210,36 @@ public final class RoundsTest {
         Check.due("a GRADING makes it new", x.looked(0, 5), 3);
     }
 
+    private static void harmOfJustADay() {
+        MarketHall x = market(0, 0);
+        x.round(0, 127, 77);
+        x.inspector(1, 0);
+        x.round(1, 127, 7);
+        int first = Given.graded(x, 5);
+        x.outside(0, 3);
+        x.pass(23);
+        int second = Given.graded(x, 5);
+        x.outside(1, 3);
+        x.pass(1);
+        Check.due("HARM 24 is found", x.found(0, 2), first);
+        Check.due("HARM 1 is none", x.looked(0, 5), 1);
+        x.pass(1);
+        x.grade(first, 1, 0, 0);
+        x.grade(second, 1, 0, 0);
+        x.pass(23);
+        Check.due("HARM of the second one", x.pallet(second, 8), 24);
+        Check.due("both are found", x.looked(0, 5), 3);
+        x.grade(first, 1, 0, 0);
+        x.pass(1);
+        Check.due("by the first INSPECTOR, as he looks first", x.looked(0, 5), 4);
+        Check.due("who is told", x.found(0, 0), 0);
+        x.round(0, 127, 0);
+        x.grade(first, 1, 0, 0);
+        x.pass(24);
+        Check.due("by the second INSPECTOR", x.looked(1, 5), 1);
+        Check.due("who is told", x.found(0, 0), 1);
+    }
+
     private static void strictFindsStages() {
         MarketHall x = market(2, 1);
         x.inspector(3, 0);
@@ -216,6 +248,8 @@ public final class RoundsTest {
         int soft = x.deliver(0, 1, 5, 355, 0);
         x.grade(soft, 1, 0, 0);
         x.deliver(0, 1, 5, 400, 0);
+        x.grade(x.deliver(0, 1, 5, 400, 0), 1, 0, 0);
+        x.grade(x.deliver(0, 1, 5, 300, 0), 1, 0, 0);
         x.outside(0, 10);
         x.pass(2);
         Check.due("its kind", x.found(0, 3), 2);
@@ -379,6 +413,21 @@ public final class RoundsTest {
         Check.index("no such INSPECTOR", () -> y.worst(-1, 0));
         Check.range("what 2", () -> y.worst(0, 2));
         Check.range("what -1", () -> y.worst(0, -1));
+    }
+
+    /** At 18 it ripens by 5 in an HOUR, and is ROTTEN above 480; the third LOOK is at 7. */
+    private static void worstInItsHours() {
+        for (int ripe = 444; ripe <= 458; ripe++) {
+            MarketHall x = Given.sortAndGrower();
+            x.inspector(5, 0);
+            x.deliver(0, 0, 5, ripe, 0);
+            x.room(3, 9, 9);
+            x.set(0, 40);
+            Check.due("worst of " + ripe, x.worst(0, 0), ripe + 7 * 5 > 480 ? 1 : 0);
+            Check.due("its STOPS", x.worst(0, 1), ripe + 7 * 5 > 480 ? 117 : 111);
+            x.pass(5);
+            Check.due("about the next DAY", x.worst(0, 0), 1);
+        }
     }
 
     private static void worstOfNoDay() {
